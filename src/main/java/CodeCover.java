@@ -162,7 +162,7 @@ public final class CodeCover {
         if (!Row.isOp(op) || !Row.isRegister(to) || !Row.isRegister(one) || !Row.isRegister(two)) {
             return OUTSIDE;
         }
-        if (wait < 1 || wait > 5 || !Row.hasSecond(op) && two != 0) {
+        if (wait < 1 || wait > 5 || (!Row.hasSecond(op) && two != 0)) {
             return OUTSIDE;
         }
         return row.append(op, to, one, two, wait) ? row.count - 1 : FULL;
@@ -597,7 +597,7 @@ public final class CodeCover {
                 }
                 int sum = plainCost[at(node, from)] + patterns.price[p];
                 int at = at(node, patterns.head[p]);
-                if (sum < cost[at] || sum == cost[at] && p < by[at]) {
+                if (sum < cost[at] || (sum == cost[at] && p < by[at])) {
                     cost[at] = sum;
                     by[at] = p;
                 }
@@ -746,7 +746,7 @@ public final class CodeCover {
         }
 
         boolean uses(int i, int register) {
-            return cells[ONE][i] == register || hasSecond(cells[OP][i]) && cells[TWO][i] == register;
+            return cells[ONE][i] == register || (hasSecond(cells[OP][i]) && cells[TWO][i] == register);
         }
 
         boolean clash(int i, int k) {
@@ -1048,8 +1048,8 @@ public final class CodeCover {
         /** The top bits are set apart, lest what is carried goes over into the next WORD. */
         static long result(int op, long one, long two) {
             switch (op) {
-                case 0: return (one & RESTS) + (two & RESTS) ^ (one ^ two) & TOPS;
-                case 1: return (one | TOPS) - (two & RESTS) ^ (one ^ ~two) & TOPS;
+                case 0: return ((one & RESTS) + (two & RESTS)) ^ ((one ^ two) & TOPS);
+                case 1: return ((one | TOPS) - (two & RESTS)) ^ ((one ^ ~two) & TOPS);
                 case 2: return one & two;
                 case 3: return one | two;
                 case 4: return one ^ two;
@@ -1066,7 +1066,7 @@ public final class CodeCover {
     private static final class Moves {
         static final int OPS = 7;
         static final int REGISTERS = 3;
-        private static final int MOST = 28;
+        private static final int MOST = 24;
 
         final int[] one = new int[MOST];
         final int[] two = new int[MOST];
@@ -1100,11 +1100,15 @@ public final class CodeCover {
             }
         }
 
+        /**
+         * Copies of x (x and x, x or x) and 0 (x - x, x xor x) are no good but at first, where +
+         * makes them: what comes last can read x itself, and register 2 is 0 if the first spares it.
+         */
         private static boolean isNew(int op, int x, int y) {
             switch (op) {
-                case 0: case 2: return x <= y;
-                case 1: return x != y || x == 0; // x - x is 0 for every x
-                case 3: case 4: return x < y; // x or x is x and x, x xor x is x - x
+                case 0: return x <= y;
+                case 1: return x != y;
+                case 2: case 3: case 4: return x < y;
                 case 5: return false; // twice x is x + x
                 default: return true;
             }
@@ -1113,7 +1117,7 @@ public final class CodeCover {
         /** Register 2 is 0 as yet: x + 2 copies x, 2 + 2 is 0, and nothing else needs to. */
         private static boolean isNewAtFirst(int op, int x, int y) {
             switch (op) {
-                case 1: return x != y && y != 2;
+                case 1: return y != 2;
                 case 2: case 3: case 4: return x == 0 && y == 1;
                 default: return true;
             }
@@ -1214,13 +1218,14 @@ public final class CodeCover {
             int target = to[level];
             for (int m = moves.begin[op[level]]; m < moves.begin[op[level] + 1]; m++) {
                 int left = unread & ~moves.reads[m];
-                if (level == 0 && !moves.atFirst[m] || (left >> target & 1) != 0) {
+                if ((level == 0 && !moves.atFirst[m]) || (left >> target & 1) != 0) {
                     continue;
                 }
                 one[level] = moves.one[m];
                 two[level] = moves.two[m];
                 System.arraycopy(before[level], 0, before[level + 1], 0, Moves.REGISTERS);
-                before[level + 1][target] = Machine.result(op[level], before[level][one[level]], before[level][two[level]]);
+                before[level + 1][target] =
+                        Machine.result(op[level], before[level][one[level]], before[level][two[level]]);
                 if (find(level + 1, n, left | 1 << target)) {
                     return true;
                 }
@@ -1232,7 +1237,7 @@ public final class CodeCover {
             int level = n - 1;
             long[] registers = before[level];
             for (int m = moves.begin[lastOp]; m < moves.begin[lastOp + 1]; m++) {
-                if ((unread & ~moves.reads[m]) != 0 || level == 0 && !moves.atFirst[m]) {
+                if ((unread & ~moves.reads[m]) != 0 || (level == 0 && !moves.atFirst[m])) {
                     continue;
                 }
                 if (Machine.result(lastOp, registers[moves.one[m]], registers[moves.two[m]]) == due[0]) {
