@@ -22,6 +22,7 @@ public final class RandomRunsTest {
         }
         for (int seed = 0; seed < 60; seed++) {
             words(new Random(seed));
+            ordersInTurn(new Random(seed));
         }
         Twins.finish("random runs");
     }
@@ -154,6 +155,25 @@ public final class RandomRunsTest {
         t.call("end");
         for (int i = 0; i < n; i++) {
             t.call("weigh", i, 1);
+        }
+    }
+
+    /** Rows one behind another in one object: nothing of the last may be left. */
+    private static void ordersInTurn(Random x) {
+        Twins t = new Twins();
+        for (int round = 0; round < 10; round++) {
+            int n = 1 + x.nextInt(6);
+            int registers = 2 + x.nextInt(5);
+            for (int i = 0; i < n; i++) {
+                instruction(x, t, registers);
+                t.call("best", -1);
+            }
+            for (int i = 0; i <= n; i++) {
+                t.call("best", i);
+            }
+            t.call(x.nextBoolean() ? "sort" : "thin");
+            t.call("best", 0);
+            t.call("drop");
         }
     }
 

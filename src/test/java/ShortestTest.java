@@ -9,13 +9,14 @@ import java.util.Set;
 /**
  * SHORTEST for every outcome that rows of up to three can have. They are few, since many
  * rows do the same: states are gone through in order, each kept where it comes first.
+ * Then for rows that do as the empty row does, but for a single one of the 256 pairs.
  */
 public final class ShortestTest {
     private static final List<int[]> ALL = new ArrayList<>();
 
     private record State(String[] registers, int[] row) { }
 
-    private static int word(int op, int x, int y) {
+    static int word(int op, int x, int y) {
         switch (op) {
             case 0: return (x + y) % 16;
             case 1: return (x + 16 - y) % 16;
@@ -79,26 +80,45 @@ public final class ShortestTest {
                 }
             }
         }
-        int wrong = 0;
         Map<String, int[]> rows = shortestRows();
         for (int[] row : rows.values()) {
             CodeCover c = new CodeCover();
             for (int code : row) {
                 c.add(code / 1000, code / 100 % 10, code / 10 % 10, code % 10, 1);
             }
-            boolean right = c.shortest(3, -1) == row.length && c.shortest(row.length, row.length) == CodeCover.NONE;
-            right &= row.length == 0 || c.shortest(row.length - 1, -1) == CodeCover.NO;
-            for (int i = 0; i < row.length; i++) {
-                right &= c.shortest(3, i) == row[i];
-            }
-            if (!right) {
-                wrong++;
-                System.out.println("not as due: SHORTEST " + Arrays.toString(row));
-            }
+            ask(c, row);
         }
-        System.out.println(rows.size() + " outcomes, " + wrong + " not as due");
-        if (wrong != 0 || rows.size() < 1000) {
-            System.exit(1);
+        Due.is(27, "outcomes of rows of up to three", rows.size(), 1374);
+        Map<Integer, CodeCover> nearly = NearMisses.find();
+        Due.is(27, "pairs that a row can leave out", nearly.size() >= 190 ? 1 : 0, 1);
+        for (int pair : nearly.keySet()) {
+            CodeCover c = nearly.get(pair);
+            StringBuilder words = new StringBuilder(first().registers[0]);
+            words.setCharAt(pair, (char) (pair % 16 ^ 8));
+            Due.is(26, "a row that does nothing but at pair " + pair, outcomeOf(c).equals(words.toString()) ? 1 : 0, 1);
+            ask(c, rows.get(words.toString()));
+        }
+        Due.finish(27);
+    }
+
+    private static String outcomeOf(CodeCover c) {
+        char[] words = new char[256];
+        for (int pair = 0; pair < 256; pair++) {
+            words[pair] = (char) c.run(pair % 16, pair / 16, 0);
+        }
+        return new String(words);
+    }
+
+    /** All that shortest answers, with the row that is due, or with null if none is. */
+    private static void ask(CodeCover c, int[] row) {
+        String told = "SHORTEST " + Arrays.toString(row);
+        for (int n = 0; n <= 3; n++) {
+            boolean does = row != null && row.length <= n;
+            Due.is(27, told + " of at most " + n, c.shortest(n, -1), does ? row.length : Due.NO);
+            for (int i = 0; i <= n; i++) {
+                int want = !does ? Due.NO : i < row.length ? row[i] : Due.NONE;
+                Due.is(27, told + " of at most " + n + " at " + i, c.shortest(n, i), want);
+            }
         }
     }
 }
