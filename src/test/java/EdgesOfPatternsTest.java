@@ -18,6 +18,7 @@ public final class EdgesOfPatternsTest {
         leastSums();
         chains();
         codeAtTheEdges();
+        textsThatEnd();
         sixtyRowsOfCode();
         Due.finish(7, 8, 9, 10, 11);
     }
@@ -281,6 +282,27 @@ public final class EdgesOfPatternsTest {
         Made.laid(c, "K", 0, 1);
         Due.all(11, "another TREE", Due.of(Made.said(c, "5").read(), c.code(-1, 0), c.code(0, 0), c.code(0, 1), c.code(1, 0)), 1, 1, 0, 0,
                 Due.NONE);
+    }
+
+    /** What stands behind a text, in the tree or of an older text, is none of its own. */
+    private static void textsThatEnd() {
+        CodeCover c = Made.tree("+" + Made.many("~", 11) + "ab");
+        Made.laid(c, "+RR", 0, 1);
+        Made.laid(c, Made.many("~", 11) + "V", 0, 2);
+        Made.laid(c, "V", 0, 3);
+        Due.all(10, "12 signs, and NODES behind them", Due.of(c.cover(0, 0, 0), c.cover(1, 0, 0), c.cover(13, 0, 0)), 6, 2, 3);
+        Due.all(11, "12 signs, and NODES behind them", Due.of(c.code(-1, 0), c.code(0, 1), c.code(1, 1), c.code(2, 1)), 3, 1, 13, 0);
+        c = Made.tree("-~ab");
+        Made.laid(c, "&&RRR", 0, 1);
+        Made.laid(c, "&RR", 0, 1);
+        Made.laid(c, "+RR", 0, 1);
+        c.clear();
+        Made.laid(c, "~V", 0, 1);
+        Made.laid(c, "V", 0, 1);
+        Made.laid(c, "-RR", 0, 1);
+        Due.all(10, "a shorter text in place of a longer one", Due.of(c.cover(0, 0, 0), c.cover(1, 0, 1), c.cover(3, 0, 1)), 3, 0, 1);
+        Due.all(11, "a shorter text in place of a longer one",
+                Due.of(c.code(-1, 0), c.code(0, 1), c.code(1, 1), c.code(2, 1), c.code(3, 1)), 3, 1, 3, 0, Due.NONE);
     }
 
     private static void sixtyRowsOfCode() {
