@@ -1216,7 +1216,8 @@ public final class CodeCover {
         /** A row that sets what nobody reads would do as well without, and so is not SHORTEST. */
         private boolean goesOn(int level, int n, int unread) {
             int target = to[level];
-            for (int m = moves.begin[op[level]]; m < moves.begin[op[level] + 1]; m++) {
+            int end = moves.begin[op[level] + 1];
+            for (int m = moves.begin[op[level]]; m < end; m++) {
                 int left = unread & ~moves.reads[m];
                 if ((level == 0 && !moves.atFirst[m]) || (left >> target & 1) != 0) {
                     continue;
@@ -1236,7 +1237,8 @@ public final class CodeCover {
         private boolean endsWith(int lastOp, int n, int unread) {
             int level = n - 1;
             long[] registers = before[level];
-            for (int m = moves.begin[lastOp]; m < moves.begin[lastOp + 1]; m++) {
+            int end = moves.begin[lastOp + 1];
+            for (int m = moves.begin[lastOp]; m < end; m++) {
                 if ((unread & ~moves.reads[m]) != 0 || (level == 0 && !moves.atFirst[m])) {
                     continue;
                 }
